@@ -740,9 +740,8 @@ public final class Quakebook {
     private void orderByMinute() {
         for (int shock = 0; shock < now.shocks.many; shock++) {
             int at = shock;
-            while (at > 0 && now.shocks.isAhead(shock, order[at - 1])) {
+            for (; at > 0 && now.shocks.isAhead(shock, order[at - 1]); at--) {
                 order[at] = order[at - 1];
-                at--;
             }
             order[at] = shock;
         }
@@ -932,11 +931,11 @@ public final class Quakebook {
         }
 
         void moveUpBehind(int shock) {
-            for (int k = shock; k + 1 < many; k++) {
-                cells[k] = cells[k + 1];
-                minutes[k] = minutes[k + 1];
-                tops[k] = tops[k + 1];
-                bottoms[k] = bottoms[k + 1];
+            for (int k = shock + 1; k < many; k++) {
+                cells[k - 1] = cells[k];
+                minutes[k - 1] = minutes[k];
+                tops[k - 1] = tops[k];
+                bottoms[k - 1] = bottoms[k];
             }
             many--;
         }
@@ -1211,7 +1210,7 @@ public final class Quakebook {
             boolean areAll = true;
             many = 0;
             for (int arrival = 0; arrival < page.heard.arrivals; arrival++) {
-                if ((set >> arrival & 1) == 1) {
+                if ((set >> arrival & 1) != 0) {
                     int least = ways.least(page.heard.cellOf(arrival), from, page.heard.waveOf[arrival]);
                     if (least == NONE) {
                         areAll = false;
@@ -1229,9 +1228,8 @@ public final class Quakebook {
             for (int k = 1; k < many; k++) {
                 int start = starts[k];
                 int at = k;
-                while (at > 0 && starts[at - 1] > start) {
+                for (; at > 0 && starts[at - 1] > start; at--) {
                     starts[at] = starts[at - 1];
-                    at--;
                 }
                 starts[at] = start;
             }
@@ -1345,6 +1343,10 @@ public final class Quakebook {
         }
 
         private void tryMinute(int from, int start) {
+            // Most minutes drop out here, ahead of the long count.
+            if (countWithinSlip(start) < most) {
+                return;
+            }
             countNearest(start);
             if (counted > most
                     || counted == most && countedSum < sum
@@ -1354,6 +1356,16 @@ public final class Quakebook {
                 cell = from;
                 minute = start;
             }
+        }
+
+        private int countWithinSlip(int start) {
+            int within = 0;
+            for (int k = 0; k < many; k++) {
+                if (Math.abs(starts[k] - start) <= page.slip) {
+                    within++;
+                }
+            }
+            return within;
         }
 
         /** Leaves the nearest one of each kind, how many these are, and the sum of their MISFITS. */
@@ -1395,6 +1407,7 @@ public final class Quakebook {
     private static final class Putting {
         private final Page page;
         private final Ways ways;
+        private final int[] times = new int[ARRIVALS * SHOCKS];
         private final int[] misfits = new int[ARRIVALS * SHOCKS];
         final int[] sizeTops = new int[SHOCKS];
         /** 0 for a SIZE that is not determined. */
@@ -1407,17 +1420,16 @@ public final class Quakebook {
 
         void measure() {
             for (int arrival = 0; arrival < page.heard.arrivals; arrival++) {
+                int from = page.heard.cellOf(arrival);
+                int wave = page.heard.waveOf[arrival];
                 for (int shock = 0; shock < page.shocks.many; shock++) {
-                    int least = timeTo(arrival, shock);
-                    int start = page.heard.hour(arrival) - least;
+                    int time = ways.least(from, page.shocks.cells[shock], wave);
+                    int start = page.heard.hour(arrival) - time;
+                    times[arrival * SHOCKS + shock] = time;
                     misfits[arrival * SHOCKS + shock] =
-                            least == NONE ? NONE : Math.abs(start - page.shocks.minutes[shock]);
+                            time == NONE ? NONE : Math.abs(start - page.shocks.minutes[shock]);
                 }
             }
-        }
-
-        private int timeTo(int arrival, int shock) {
-            return ways.least(page.heard.cellOf(arrival), page.shocks.cells[shock], page.heard.waveOf[arrival]);
         }
 
         void tidy() {
@@ -1447,7 +1459,7 @@ public final class Quakebook {
         private void weighPut(int shock) {
             for (int arrival = 0; arrival < page.heard.arrivals; arrival++) {
                 if (page.heard.put[arrival] == shock) {
-                    sizeTops[shock] += page.heard.strengthOf[arrival] * (1 + timeTo(arrival, shock));
+                    sizeTops[shock] += page.heard.strengthOf[arrival] * (1 + times[arrival * SHOCKS + shock]);
                     sizeBottoms[shock]++;
                 }
             }
@@ -1689,12 +1701,12 @@ public final class Quakebook {
         /** The minor of a set of k columns is that in the first k rows, unfolded along the last of these. */
         private void fillMinors() {
             minors.put(0, 1);
-            for (int set = 1; set < 1 << unknowns + 1; set++) {
+            for (int set = 1; set < 1 << (unknowns + 1); set++) {
                 minors.put(set, 0);
                 int last = Integer.bitCount(set) - 1;
                 for (int column = 0; column <= unknowns; column++) {
-                    if ((set >> column & 1) == 1) {
-                        boolean odd = Integer.bitCount(set >> column + 1) % 2 == 1;
+                    if ((set >> column & 1) != 0) {
+                        boolean odd = Integer.bitCount(set >> (column + 1)) % 2 == 1;
                         int factor = product(last, column);
                         minors.addTimes(set, set & ~(1 << column), odd ? -factor : factor);
                     }
@@ -1712,7 +1724,7 @@ public final class Quakebook {
 
         /** The minor with the right side in the place of a column; it stands last there, so a sign goes with it. */
         private int minorFor(int column) {
-            return whole() & ~(1 << column) | 1 << unknowns;
+            return (whole() & ~(1 << column)) | (1 << unknowns);
         }
 
         private boolean isTurned(int column) {
@@ -1755,7 +1767,7 @@ public final class Quakebook {
                 out.append('-');
                 return;
             }
-            ratio.take(minors, whole() | 1 << unknowns, false, whole());
+            ratio.take(minors, whole() | (1 << unknowns), false, whole());
             ratio.appendTo(out);
         }
 

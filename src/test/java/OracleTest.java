@@ -372,6 +372,49 @@ public final class OracleTest {
         call("digest");
     }
 
+    /** As many equations as there can be, through long ways: the greatest numbers that come up. */
+    private void greatFits(long number) {
+        seed = number * 104729 + 3;
+        x = new Quakebook();
+        y = new PlainBook();
+        run.clear();
+        run.add("great fits " + number);
+        boolean isSnake = oneIn(2);
+        for (int layer = 1; isSnake && layer < 8; layer += 2) {
+            for (int column = 0; column < 12; column++) {
+                call("wall", 12 * layer + column, column != (layer % 4 == 1 ? 11 : 0));
+            }
+        }
+        int slowest = oneIn(2) ? 9 : 5;
+        for (int k = 0; k < 96; k++) {
+            call("slow", k, 0, between(slowest - 4, slowest));
+        }
+        call("slip", 9);
+        int[] cells = {0, 84, between(24, 35), between(48, 59), between(72, 83), between(0, 11)};
+        for (int cell : cells) {
+            call("station", cell);
+        }
+        for (int shock = 0; shock < 10; shock++) {
+            call("tell", oneIn(4) ? cells[shock % 6] : below(48) / 12 * 24 + below(12), 100 + 900 * shock, between(0, 9999),
+                    between(1, 999));
+        }
+        for (int k = 0; k < 24; k++) {
+            int shock = below(10);
+            int station = below(6);
+            int time = y.time(cells[station], y.ofShock(shock, 0), 0);
+            call("arrive", station, 0, Math.max(0, Math.min(9999, y.ofShock(shock, 1) + time + between(-9, 9))), 1);
+            if (k > 18) {
+                fits();
+            }
+        }
+        fits();
+        call("isSound");
+        call("digest");
+        for (int k = 0; k < 10; k++) {
+            call("slope", k * 100, between(1, 999));
+        }
+    }
+
     public static void main(String[] args) {
         long first = args.length > 0 ? Long.parseLong(args[0]) : 1;
         long last = args.length > 1 ? Long.parseLong(args[1]) : 60;
@@ -379,6 +422,7 @@ public final class OracleTest {
         t.greatSlopes();
         for (long k = first; k <= last; k++) {
             t.oneRun(k);
+            t.greatFits(k);
         }
         for (String name : t.ours.keySet()) {
             if (java.lang.reflect.Modifier.isPublic(t.ours.get(name).getModifiers()) && !t.asked.containsKey(name)) {

@@ -150,6 +150,15 @@ public final class PromiseTest {
         argument(x, () -> x.slow(0, 0, 0), "slow(0, 0, 0)");
         argument(x, () -> x.slow(0, 1, 10), "slow(0, 1, 10)");
         argument(x, () -> x.slow(0, 1, LOW), "slow(0, 1, LOW)");
+        // It is TIDIED: what FITS no more is taken, what FITS now is put.
+        Quakebook y = standing(1, 0);
+        y.tell(1, 100, 1, 1);
+        y.arrive(0, 0, 106, 1);
+        y.slow(1, 0, 7);
+        is(0, y.putTo(0), "putTo(0)");
+        y.slow(1, 0, 6);
+        is(1, y.putTo(0), "putTo(0)");
+        is(3, y.ofArrival(0, 6), "ofArrival(0, 6)");
     }
 
     private void layer() {
@@ -171,6 +180,14 @@ public final class PromiseTest {
         index(x, () -> x.layer(0, 2, 10), "layer(0, 2, 10)");
         argument(x, () -> x.layer(0, 0, 10), "layer(0, 0, 10)");
         argument(x, () -> x.layer(0, 0, 0), "layer(0, 0, 0)");
+        Quakebook y = standing(1, 0);
+        y.tell(1, 100, 1, 1);
+        y.arrive(0, 1, 110, 1);
+        is(1, y.putTo(0), "putTo(0)");
+        y.layer(0, 1, 3);
+        is(0, y.putTo(0), "putTo(0)");
+        y.layer(0, 1, 4);
+        is(1, y.putTo(0), "putTo(0)");
     }
 
     private void wall() {
@@ -571,6 +588,24 @@ public final class PromiseTest {
             is(0, x.count(5), "count(5)");
             is(1, x.count(7), "count(7)");
         }
+        Quakebook z = new Quakebook();
+        z.tell(3, 10, 7, 1);
+        z.tell(4, 5, 9, 2);
+        z.rule(5, 1, 3, 3);
+        z.rule(4, 1, 4, 4);
+        z.drop(0);
+        z.noRules();
+        z.rule(9999, 1, 9, 9);
+        z.rule(9998, 2, 8, 8);
+        is("", z.alerts(), "alerts()");
+        z.undo();
+        z.undo();
+        z.undo();
+        z.undo();
+        is("7", z.size(0), "size(0)");
+        is("9/2", z.size(1), "size(1)");
+        is("1@4:5 0@3:10", z.book(), "book()");
+        is("0 1", z.alerts(), "alerts()");
         // What was put stays as it was, even if TIDYING would not put it so.
         Quakebook y = standing(1, 0);
         y.arrive(0, 0, 100, 1);
@@ -851,6 +886,17 @@ public final class PromiseTest {
         is(6, x.bad(6), "bad(6)");
         x.arrive(0, 0, 400, 1);
         is(5, x.bad(15), "bad(15)");
+        // Just the cell 0 is possible: 7 rows nearer to the one than to the other.
+        Quakebook y = standing(1, 0);
+        y.station(84);
+        y.slip(0);
+        y.wall(1, true);
+        y.arrive(0, 0, 100, 1);
+        y.arrive(1, 0, 142, 1);
+        is("0", y.possible(3), "possible(3)");
+        is(0, y.bad(3), "bad(3)");
+        y.arrive(1, 0, 143, 1);
+        is(5, y.bad(7), "bad(7)");
         x.wall(5, true);
         is(1, x.bad(7), "bad(7) in a wall");
         is(8, x.bad(8), "bad(8) in a wall");
@@ -960,6 +1006,16 @@ public final class PromiseTest {
         is(4, x.ofCluster(4, 0, 10, 1), "ofCluster(4, 0, 10, 1)");
         is(4, x.ofCluster(0, 18, 10, 1), "ofCluster(0, 18, 10, 1)");
         is(0, x.ofCluster(0, 0, 0, 1), "ofCluster(0, 0, 0, 1)");
+        // One without a SIZE is less than all, though it is the first and has the smallest minute.
+        Quakebook y = new Quakebook();
+        y.tell(0, 0, 0, 0);
+        y.tell(0, 1, 1, 999);
+        y.tell(0, 2, 0, 0);
+        is(1, y.ofCluster(0, 0, 1, 1), "ofCluster(0, 0, 1, 1)");
+        is(1, y.ofCluster(0, 0, 1, 2), "ofCluster(0, 0, 1, 2)");
+        is(1, y.ofCluster(2, 0, 1, 3), "ofCluster(2, 0, 1, 3)");
+        y.drop(1);
+        is(0, y.ofCluster(1, 0, 2, 1), "ofCluster(1, 0, 2, 1)");
         index(x, () -> x.ofCluster(5, 19, 0, 0), "ofCluster(5, 19, 0, 0)");
         index(x, () -> x.ofCluster(-1, 0, 0, 0), "ofCluster(-1, 0, 0, 0)");
         argument(x, () -> x.ofCluster(0, 19, 0, 0), "ofCluster(0, 19, 0, 0)");

@@ -33,8 +33,10 @@ public final class Quakebook {
     private final Locator locator = new Locator(now, ways);
     private final Putting putting = new Putting(now, ways);
     private final Clusters groups = new Clusters(now.shocks, putting);
-    private final Fit firstFit = new Fit(now, ways, 0);
-    private final Fit secondFit = new Fit(now, ways, 1);
+    // One for both, as it is of use only while a Fit is solved.
+    private final Bigs minors = new Bigs(Fit.MINORS);
+    private final Fit firstFit = new Fit(now, ways, minors, 0);
+    private final Fit secondFit = new Fit(now, ways, minors, 1);
     private final Ratio ratio = new Ratio();
     private final StringBuilder out = new StringBuilder();
     private final int[] order = new int[SHOCKS];
@@ -1013,15 +1015,21 @@ public final class Quakebook {
         }
     }
 
-    /** TIMES and WAYS. The TIMES from a cell are made out when they are first asked for on this ground. */
+    /**
+     * TIMES and WAYS. The TIMES from a cell are made out when they are first asked for on this ground, and kept in
+     * a row till so many others were needed that it is used again.
+     */
     private static final class Ways {
         private static final int SIDES = 4;
+        // Enough for all STATIONS and SHOCKS at once, in both WAVES.
+        private static final int ROWS = (STATIONS + SHOCKS) * WAVES + 8;
 
         private final Ground ground;
         private final int[] near = new int[CELLS * SIDES];
-        private final int[] times = new int[WAVES * CELLS * CELLS];
-        private final int[] groundOfRow = new int[WAVES * CELLS];
-        private int groundNumber = 1;
+        private final int[] times = new int[ROWS * CELLS];
+        private final int[] rowOfSource = new int[WAVES * CELLS];
+        private final int[] sourceOfRow = new int[ROWS];
+        private int nextRow = 0;
         final int[] cells = new int[CELLS];
         int length = 0;
 
@@ -1035,30 +1043,43 @@ public final class Quakebook {
                 near[cell * SIDES + 2] = column < COLUMNS - 1 ? cell + 1 : NONE;
                 near[cell * SIDES + 3] = cell < CELLS - COLUMNS ? cell + COLUMNS : NONE;
             }
+            for (int row = 0; row < ROWS; row++) {
+                sourceOfRow[row] = NONE;
+            }
         }
 
         void groundChanged() {
-            groundNumber++;
+            for (int row = 0; row < ROWS; row++) {
+                sourceOfRow[row] = NONE;
+            }
         }
 
         int least(int from, int to, int wave) {
             return times[rowOf(from, wave) + to];
         }
 
-        /** Where the TIMES from a cell begin. */
+        /** Where the TIMES from a cell begin; only till the next call, which may use that row for another cell. */
         private int rowOf(int from, int wave) {
-            int row = (wave * CELLS + from) * CELLS;
-            if (groundOfRow[wave * CELLS + from] != groundNumber) {
-                groundOfRow[wave * CELLS + from] = groundNumber;
-                for (int cell = 0; cell < CELLS; cell++) {
-                    times[row + cell] = NONE;
-                }
-                if (ground.walls[from] == 0) {
-                    times[row + from] = 0;
-                    spread(row, wave);
-                }
+            int source = wave * CELLS + from;
+            int row = rowOfSource[source];
+            if (sourceOfRow[row] != source) {
+                row = nextRow;
+                nextRow = (nextRow + 1) % ROWS;
+                rowOfSource[source] = row;
+                sourceOfRow[row] = source;
+                fill(row * CELLS, from, wave);
             }
-            return row;
+            return row * CELLS;
+        }
+
+        private void fill(int row, int from, int wave) {
+            for (int cell = 0; cell < CELLS; cell++) {
+                times[row + cell] = NONE;
+            }
+            if (ground.walls[from] == 0) {
+                times[row + from] = 0;
+                spread(row, wave);
+            }
         }
 
         private void spread(int row, int wave) {
@@ -1627,10 +1648,13 @@ public final class Quakebook {
      */
     private static final class Fit {
         private static final int WIDTH = LAYERS + 1;
-        private static final int SPARE = 1 << WIDTH;
+        static final int MINORS = 1 << WIDTH;
+        private static final int WHOLE = WIDTH;
+        private static final int SPARE = WIDTH + 1;
 
         private final Page page;
         private final Ways ways;
+        private final Bigs minors;
         private final int wave;
         boolean isSolved = false;
         private int equations = 0;
@@ -1638,11 +1662,13 @@ public final class Quakebook {
         private final int[] row = new int[WIDTH];
         private final int[] products = new int[WIDTH * WIDTH];
         private final int[] columns = new int[WIDTH];
-        private final Bigs minors = new Bigs(SPARE + 1);
+        /** The tops of the SLOWNESSES, behind them that of what is left; at WHOLE the bottom of all these. */
+        private final Bigs parts = new Bigs(SPARE + 1);
 
-        Fit(Page page, Ways ways, int wave) {
+        Fit(Page page, Ways ways, Bigs minors, int wave) {
             this.page = page;
             this.ways = ways;
+            this.minors = minors;
             this.wave = wave;
         }
 
@@ -1662,6 +1688,7 @@ public final class Quakebook {
             }
             chooseColumns();
             fillMinors();
+            takeParts();
         }
 
         private void addEquation(int arrival) {
@@ -1714,21 +1741,22 @@ public final class Quakebook {
             }
         }
 
-        private int whole() {
-            return (1 << unknowns) - 1;
+        private void takeParts() {
+            int right = 1 << unknowns;
+            int whole = right - 1;
+            for (int column = 0; column < unknowns; column++) {
+                parts.copy(column, minors, whole & ~(1 << column) | right);
+                // The right side takes the place of this column, but stands last in the minor.
+                if ((unknowns - 1 - column) % 2 == 1) {
+                    parts.negate(column);
+                }
+            }
+            parts.copy(unknowns, minors, whole | right);
+            parts.copy(WHOLE, minors, whole);
         }
 
         private boolean isDetermined() {
-            return unknowns > 0 && !minors.isZero(whole());
-        }
-
-        /** The minor with the right side in the place of a column; it stands last there, so a sign goes with it. */
-        private int minorFor(int column) {
-            return (whole() & ~(1 << column)) | (1 << unknowns);
-        }
-
-        private boolean isTurned(int column) {
-            return (unknowns - 1 - column) % 2 == 1;
+            return unknowns > 0 && !parts.isZero(WHOLE);
         }
 
         int answer(int what) {
@@ -1753,7 +1781,7 @@ public final class Quakebook {
                     out.append(' ');
                 }
                 if (columns[column] == layer) {
-                    ratio.take(minors, minorFor(column), isTurned(column), whole());
+                    ratio.take(parts, column, WHOLE);
                     ratio.appendTo(out);
                     column++;
                 } else {
@@ -1767,7 +1795,7 @@ public final class Quakebook {
                 out.append('-');
                 return;
             }
-            ratio.take(minors, whole() | (1 << unknowns), false, whole());
+            ratio.take(parts, unknowns, WHOLE);
             ratio.appendTo(out);
         }
 
@@ -1777,12 +1805,12 @@ public final class Quakebook {
                 return true;
             }
             for (int a = 0; a < unknowns; a++) {
-                minors.put(SPARE, 0);
-                minors.addTimes(SPARE, whole(), product(a, unknowns));
+                parts.put(SPARE, 0);
+                parts.addTimes(SPARE, WHOLE, product(a, unknowns));
                 for (int b = 0; b < unknowns; b++) {
-                    minors.addTimes(SPARE, minorFor(b), isTurned(b) ? product(a, b) : -product(a, b));
+                    parts.addTimes(SPARE, b, -product(a, b));
                 }
-                if (!minors.isZero(SPARE)) {
+                if (!parts.isZero(SPARE)) {
                     return false;
                 }
             }
@@ -1791,16 +1819,16 @@ public final class Quakebook {
     }
 
     /**
-     * A row of whole numbers of 192 bits, the lowest 32 of each first, one below 0 as its complement.
+     * A row of whole numbers of 160 bits, the lowest 32 of each first, one below 0 as its complement.
      * The greatest that the document's limits let come up (what is left, by all eight LAYERS) has some 140.
      */
     private static final class Bigs {
-        static final int BITS = 192;
+        static final int BITS = 160;
         private static final int PARTS = BITS / 32;
         private static final long LOW = 0xFFFFFFFFL;
         private static final int CHUNK = 1000000000;
         private static final int CHUNK_DIGITS = 9;
-        private static final int CHUNKS = 7;
+        private static final int CHUNKS = 6;
 
         private final int[] parts;
 
@@ -1986,11 +2014,8 @@ public final class Quakebook {
             numbers.multiply(TOP, number);
         }
 
-        void take(Bigs from, int top, boolean negated, int bottom) {
+        void take(Bigs from, int top, int bottom) {
             numbers.copy(TOP, from, top);
-            if (negated) {
-                numbers.negate(TOP);
-            }
             numbers.copy(BOTTOM, from, bottom);
         }
 

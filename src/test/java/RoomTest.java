@@ -1,13 +1,23 @@
 import java.lang.management.ManagementFactory;
+import java.lang.reflect.Array;
+import java.lang.reflect.Field;
+import java.lang.reflect.Modifier;
+import java.util.ArrayList;
+import java.util.Collections;
+import java.util.IdentityHashMap;
+import java.util.List;
+import java.util.Set;
 
 /**
  * All calls of one run live in one room, from which nothing goes: so what the dearest call makes, taken as often as
- * an object is used, must stay far below it. Measured in bytes, of which an element has at least one.
+ * an object is used, must stay below it. That is the constructor, of which objects and elements are counted; what the
+ * others make is measured in bytes, of which an element has at least one.
  */
 public final class RoomTest {
     private static final int CALLS = 512;
     private static final long MOST_OF_RUN = 2_000_000;
-    private static final long MOST_OF_OBJECT = 400_000;
+    private static final long ROOM_OBJECTS = 600_000;
+    private static final long ROOM_ELEMENTS = 7_300_000;
 
     private interface Call {
         void go(Quakebook x);
@@ -47,6 +57,54 @@ public final class RoomTest {
         return x;
     }
 
+    /** How many objects and arrays an object holds, and how many fields and elements these have. */
+    private static long[] countAll(Object from) {
+        Set<Object> seen = Collections.newSetFromMap(new IdentityHashMap<>());
+        List<Object> open = new ArrayList<>(List.of(from));
+        seen.add(from);
+        long elements = 0;
+        for (int k = 0; k < open.size(); k++) {
+            Object o = open.get(k);
+            List<Object> held = new ArrayList<>();
+            if (o.getClass().isArray()) {
+                elements += Array.getLength(o);
+                for (int at = 0; o instanceof Object[] && at < Array.getLength(o); at++) {
+                    held.add(Array.get(o, at));
+                }
+            } else if (o.getClass().getName().startsWith("Quakebook")) {
+                elements += fieldsOf(o, held);
+            } else {
+                // A text or StringBuilder, whose inside is not open.
+                elements += 32;
+            }
+            for (Object h : held) {
+                if (h != null && seen.add(h)) {
+                    open.add(h);
+                }
+            }
+        }
+        return new long[] {seen.size(), elements};
+    }
+
+    private static int fieldsOf(Object o, List<Object> held) {
+        int many = 0;
+        for (Field f : o.getClass().getDeclaredFields()) {
+            if (Modifier.isStatic(f.getModifiers())) {
+                continue;
+            }
+            many++;
+            if (!f.getType().isPrimitive()) {
+                f.setAccessible(true);
+                try {
+                    held.add(f.get(o));
+                } catch (IllegalAccessException e) {
+                    throw new IllegalStateException(e);
+                }
+            }
+        }
+        return many;
+    }
+
     private static void room(String name, Call call) {
         Quakebook x = full();
         call.go(x);
@@ -63,12 +121,11 @@ public final class RoomTest {
     }
 
     public static void main(String[] args) {
-        long before = bytes();
         Quakebook x = new Quakebook();
-        long one = bytes() - before;
-        if (one > MOST_OF_OBJECT) {
+        long[] one = countAll(x);
+        if (one[0] * CALLS > ROOM_OBJECTS || one[1] * CALLS > ROOM_ELEMENTS) {
             wrong++;
-            System.out.println("  FAILED an object has " + one + " bytes");
+            System.out.println("  FAILED " + CALLS + " objects have no room");
         }
         Quakebook y = full();
         if (y.count(4) != 10 || y.count(3) > 8 || y.made(0).length() < 20 || x.count(4) != 0) {
@@ -96,7 +153,7 @@ public final class RoomTest {
             b.gather(2);
         });
         room("merge", b -> b.merge(18, 9999));
-        System.out.println("RoomTest: an object has " + one + " bytes, " + CALLS + " of the dearest calls make " + dearest
+        System.out.println("RoomTest: an object has " + one[0] + " objects and " + one[1] + " elements, " + CALLS + " of the dearest calls make " + dearest
                 + ", " + wrong + " wrong");
         if (wrong > 0) {
             System.exit(1);

@@ -1067,18 +1067,18 @@ public final class Quakebook {
                 nextRow = (nextRow + 1) % ROWS;
                 rowOfSource[source] = row;
                 sourceOfRow[row] = source;
-                fill(row * CELLS, from, wave);
+                begin(row * CELLS, from);
+                spread(row * CELLS, wave);
             }
             return row * CELLS;
         }
 
-        private void fill(int row, int from, int wave) {
+        private void begin(int row, int from) {
             for (int cell = 0; cell < CELLS; cell++) {
                 times[row + cell] = NONE;
             }
             if (ground.walls[from] == 0) {
                 times[row + from] = 0;
-                spread(row, wave);
             }
         }
 

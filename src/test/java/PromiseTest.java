@@ -56,6 +56,8 @@ public final class PromiseTest {
         t.forget();
         t.gather();
         t.gatherTies();
+        t.gatherMinutes();
+        t.gatherMany();
         t.gatherLimits();
         t.tell();
         t.drop();
@@ -340,6 +342,11 @@ public final class PromiseTest {
         argument(x, () -> x.gather(1), "gather(1)");
         argument(x, () -> x.gather(9), "gather(9)");
         argument(x, () -> x.gather(LOW), "gather(LOW)");
+        argument(x, () -> x.gather(HIGH), "gather(HIGH)");
+        // (10 * 19 + 20 * 61 + 30 * 49) / 3
+        is("960", x.size(0), "size(0)");
+        is(0, x.ofShock(0, 4), "ofShock(0, 4)");
+        is(true, x.isSound(), "isSound()");
     }
 
     private void gatherTies() {
@@ -379,6 +386,53 @@ public final class PromiseTest {
         is("0@0:71", kind.book(), "book()");
         is(29, kind.putTo(0), "putTo(0)");
         is(2, kind.putTo(-1), "putTo(-1)");
+    }
+
+    private void gatherMinutes() {
+        promise = 10;
+        // 5 apart: two minutes serve, with the same sum; the smallest is the later one less the slip.
+        Quakebook x = standing(4, 0);
+        x.wall(1, true);
+        x.wall(12, true);
+        x.arrive(0, 0, 100, 1);
+        x.arrive(1, 0, 105, 1);
+        is(1, x.gather(2), "gather(2)");
+        is("0@0:102", x.book(), "book()");
+        // With more of the later ones the greater minute is nearer.
+        x.undo();
+        x.arrive(2, 0, 105, 1);
+        x.arrive(3, 0, 105, 1);
+        is(1, x.gather(4), "gather(4)");
+        is("0@0:103", x.book(), "book()");
+        is(9, x.ofShock(0, 4), "ofShock(0, 4)");
+        // Of one STATION and WAVE the nearest one's MISFIT alone is added, though a further one was written first.
+        Quakebook y = standing(3, 0);
+        y.wall(1, true);
+        y.wall(12, true);
+        y.arrive(0, 0, 106, 1);
+        y.arrive(0, 0, 103, 1);
+        y.arrive(1, 0, 103, 1);
+        y.arrive(2, 0, 105, 1);
+        is(1, y.gather(3), "gather(3)");
+        is("0@0:103", y.book(), "book()");
+        is(14, y.putTo(0), "putTo(0)");
+        is(1, y.putTo(-1), "putTo(-1)");
+    }
+
+    private void gatherMany() {
+        promise = 10;
+        Quakebook x = standing(6, 0);
+        x.wall(1, true);
+        x.wall(12, true);
+        for (int k = 0; k < 12; k++) {
+            x.arrive(k % 6, k / 6, k < 9 ? 500 : 900, 1);
+        }
+        is(1, x.gather(8), "gather(8)");
+        is("0@0:500", x.book(), "book()");
+        is(511, x.putTo(0), "putTo(0)");
+        is(0, x.gather(4), "gather(4)");
+        is(1, x.gather(3), "gather(3)");
+        is(7 << 9, x.putTo(1), "putTo(1)");
     }
 
     private void gatherLimits() {
@@ -422,6 +476,8 @@ public final class PromiseTest {
         is(2, x.tell(0, 0, 0, 0), "tell(0, 0, 0, 0)");
         is(3, x.tell(0, 0, 0, LOW), "tell(0, 0, 0, LOW)");
         is(0, x.ofShock(3, 2), "ofShock(3, 2)");
+        is(4, x.tell(0, 5000, 0, 7), "tell(0, 5000, 0, 7)");
+        is("-", x.size(4), "size(4)");
         index(x, () -> x.tell(96, -1, 0, 0), "tell(96, -1, 0, 0)");
         index(x, () -> x.tell(-1, 0, 0, 0), "tell(-1, 0, 0, 0)");
         argument(x, () -> x.tell(0, -1, 0, 0), "tell(0, -1, 0, 0)");
@@ -430,7 +486,7 @@ public final class PromiseTest {
         argument(x, () -> x.tell(0, 0, 10000, 1), "tell(0, 0, 10000, 1)");
         argument(x, () -> x.tell(0, 0, 1, 0), "tell(0, 0, 1, 0)");
         argument(x, () -> x.tell(0, 0, 1, 1000), "tell(0, 0, 1, 1000)");
-        for (int k = 4; k < 10; k++) {
+        for (int k = 5; k < 10; k++) {
             is(k, x.tell(k, k, 1, 1), "tell");
         }
         is(8, x.count(6), "count(6)");
@@ -515,6 +571,8 @@ public final class PromiseTest {
         argument(x, () -> x.rule(1, 0, 0, 0), "rule(1, 0, 0, 0)");
         argument(x, () -> x.rule(0, 1000, 0, 0), "rule(0, 1000, 0, 0)");
         argument(x, () -> x.rule(0, 1, 12, 0), "rule(0, 1, 12, 0)");
+        argument(x, () -> x.rule(0, 1, -1, 0), "rule(0, 1, -1, 0)");
+        argument(x, () -> x.rule(0, 1, 0, 12), "rule(0, 1, 0, 12)");
         argument(x, () -> x.rule(0, 1, 0, -1), "rule(0, 1, 0, -1)");
         x.rule(1, 1, 1, 1);
         is(3, x.rule(1, 1, 1, 1), "rule(1, 1, 1, 1)");
@@ -606,6 +664,8 @@ public final class PromiseTest {
         is("9/2", z.size(1), "size(1)");
         is("1@4:5 0@3:10", z.book(), "book()");
         is("0 1", z.alerts(), "alerts()");
+        undoPlaces();
+        undoRules();
         // What was put stays as it was, even if TIDYING would not put it so.
         Quakebook y = standing(1, 0);
         y.arrive(0, 0, 100, 1);
@@ -621,6 +681,58 @@ public final class PromiseTest {
         y.wall(7, true);
         y.undo();
         is(1, y.putTo(1), "putTo(1) behind undo");
+    }
+
+    private void undoPlaces() {
+        Quakebook x = standing(1, 17);
+        x.offset(0, 8);
+        x.arrive(0, 1, 1234, 56);
+        x.undo();
+        x.undo();
+        x.undo();
+        is(0, x.ofCell(17, 3), "ofCell(17, 3)");
+        // In their places others, with other numbers all through; then gone too.
+        is(0, x.station(30), "station(30)");
+        is(1, x.station(31), "station(31)");
+        is(0, x.arrive(1, 1, 77, 9), "arrive(1, 1, 77, 9)");
+        is(1, x.arrive(1, 0, 78, 8), "arrive(1, 0, 78, 8)");
+        is(1, x.forget(1), "forget(1)");
+        x.undo();
+        x.undo();
+        is(1, x.arrive(0, 1, 79, 7), "arrive(0, 1, 79, 7)");
+        int[][] due = {{1, 1, 77, 9, 77, -1, -1, 0}, {0, 1, 79, 7, 79, -1, -1, 0}};
+        for (int arrival = 0; arrival < 2; arrival++) {
+            for (int what = 0; what < 8; what++) {
+                is(due[arrival][what], x.ofArrival(arrival, what), "ofArrival(" + arrival + ", " + what + ")");
+            }
+        }
+        x.undo();
+        is(1, x.count(2), "count(2)");
+        x.slip(3);
+        x.undo();
+        for (int what = 0; what < 8; what++) {
+            is(due[0][what], x.ofArrival(0, what), "ofArrival(0, " + what + ") again");
+        }
+        is(1, x.ofCell(30, 3), "ofCell(30, 3)");
+        is(1, x.ofCell(31, 3), "ofCell(31, 3)");
+        is(0, x.ofCell(0, 3), "ofCell(0, 3)");
+    }
+
+    private void undoRules() {
+        Quakebook x = new Quakebook();
+        x.tell(6, 0, 3, 1);
+        x.tell(2, 0, 3, 1);
+        x.rule(9, 3, 5, 7);
+        x.rule(10, 3, 0, 11);
+        is("0", x.alerts(), "alerts()");
+        x.noRules();
+        x.rule(1, 999, 0, 2);
+        x.rule(1, 999, 0, 0);
+        is("1", x.alerts(), "alerts()");
+        x.undo();
+        x.undo();
+        x.undo();
+        is("0", x.alerts(), "alerts() behind undo()");
     }
 
     private void knock() {
@@ -886,6 +998,22 @@ public final class PromiseTest {
         is(6, x.bad(6), "bad(6)");
         x.arrive(0, 0, 400, 1);
         is(5, x.bad(15), "bad(15)");
+        // The first goes at last: it is with each of the others, and these are not with one another.
+        Quakebook first = standing(1, 5);
+        first.arrive(0, 0, 103, 1);
+        first.arrive(0, 0, 100, 1);
+        first.arrive(0, 0, 107, 1);
+        is(6, first.bad(7), "bad(7) without the first");
+        // All that there can be: the last one goes first.
+        for (int k = 3; k < 24; k++) {
+            first.arrive(0, 0, k < 23 ? 103 : 400, 1);
+        }
+        is(6, first.bad((1 << 24) - 1), "bad() of all");
+        is(1 << 23 | 1 << 22, first.bad(3 << 22), "bad() of the last two");
+        is(0, first.bad(1 << 23), "bad() of the last one");
+        is(0, first.bestCell(1 << 23), "bestCell() of the last one");
+        argument(first, () -> first.bad(1 << 24), "bad(1 << 24)");
+        argument(first, () -> first.bestCell(1 << 24 | 1), "bestCell(1 << 24 | 1)");
         // Just the cell 0 is possible: 7 rows nearer to the one than to the other.
         Quakebook y = standing(1, 0);
         y.station(84);
@@ -917,6 +1045,15 @@ public final class PromiseTest {
         is(2 + 8, x.putTo(1), "putTo(1)");
         is(4, x.putTo(-1), "putTo(-1)");
         index(x, () -> x.putTo(2), "putTo(2)");
+        promise = 23;
+        is(1, x.ofArrival(1, 5), "ofArrival(1, 5)");
+        is(1, x.ofArrival(1, 6), "ofArrival(1, 6)");
+        is(3, x.ofArrival(3, 6), "ofArrival(3, 6)");
+        is(3, x.ofArrival(4, 6), "ofArrival(4, 6)");
+        promise = 30;
+        is(3, x.ofShock(0, 4), "ofShock(0, 4)");
+        is(4, x.ofShock(1, 4), "ofShock(1, 4)");
+        promise = 29;
         index(x, () -> x.putTo(-2), "putTo(-2)");
     }
 
@@ -1016,6 +1153,9 @@ public final class PromiseTest {
         is(1, y.ofCluster(2, 0, 1, 3), "ofCluster(2, 0, 1, 3)");
         y.drop(1);
         is(0, y.ofCluster(1, 0, 2, 1), "ofCluster(1, 0, 2, 1)");
+        y.tell(0, 3, 1, 9);
+        y.tell(0, 0, 0, 0);
+        is(2, y.ofCluster(0, 0, 3, 1), "ofCluster(0, 0, 3, 1)");
         index(x, () -> x.ofCluster(5, 19, 0, 0), "ofCluster(5, 19, 0, 0)");
         index(x, () -> x.ofCluster(-1, 0, 0, 0), "ofCluster(-1, 0, 0, 0)");
         argument(x, () -> x.ofCluster(0, 19, 0, 0), "ofCluster(0, 19, 0, 0)");

@@ -1,48 +1,7 @@
+import java.util.function.Supplier;
+
 /** Promise by promise: ordinary inputs, the edges that the document names, and wrong inputs. */
-public final class PromiseTest {
-    private interface Call {
-        Object go();
-    }
-
-    private static final int LOW = Integer.MIN_VALUE;
-    private static final int HIGH = Integer.MAX_VALUE;
-
-    private int promise;
-    private int looked;
-    private int wrong;
-
-    private void is(Object due, Object got, String what) {
-        looked++;
-        if (!due.equals(got)) {
-            wrong++;
-            System.out.println("  FAILED promise " + promise + ": " + what + " answered " + got + ", due is " + due);
-        }
-    }
-
-    private void fails(Class<?> due, Quakebook x, Call call, String what) {
-        long before = x.digest();
-        Object got;
-        try {
-            got = call.go();
-        } catch (RuntimeException e) {
-            got = e.getClass();
-        }
-        is(due, got, what);
-        is(before, x.digest(), "the digest behind " + what);
-    }
-
-    private void index(Quakebook x, Call call, String what) {
-        fails(IndexOutOfBoundsException.class, x, call, what);
-    }
-
-    private void argument(Quakebook x, Call call, String what) {
-        fails(IllegalArgumentException.class, x, call, what);
-    }
-
-    private void state(Quakebook x, Call call, String what) {
-        fails(IllegalStateException.class, x, call, what);
-    }
-
+public final class PromiseTest extends Looks {
     public static void main(String[] args) {
         PromiseTest t = new PromiseTest();
         t.newObject();
@@ -95,23 +54,11 @@ public final class PromiseTest {
         t.count();
         t.isSound();
         t.digest();
-        System.out.println("PromiseTest: " + t.looked + " looks, " + t.wrong + " wrong");
-        if (t.wrong > 0) {
-            System.exit(1);
-        }
-    }
-
-    /** So many STATIONS in one cell. */
-    private static Quakebook standing(int many, int cell) {
-        Quakebook x = new Quakebook();
-        for (int k = 0; k < many; k++) {
-            x.station(cell);
-        }
-        return x;
+        t.end();
     }
 
     private void newObject() {
-        promise = 1;
+        about("promise 1");
         Quakebook x = new Quakebook();
         for (int what = 0; what < 10; what++) {
             is(what == 8 ? 3 : 0, x.count(what), "count(" + what + ")");
@@ -133,7 +80,7 @@ public final class PromiseTest {
     }
 
     private void slow() {
-        promise = 2;
+        about("promise 2");
         Quakebook x = new Quakebook();
         is(6, x.time(0, 1, 0), "time(0, 1, 0)");
         is(3, x.slow(1, 0, 9), "slow(1, 0, 9)");
@@ -164,7 +111,7 @@ public final class PromiseTest {
     }
 
     private void layer() {
-        promise = 3;
+        about("promise 3");
         Quakebook x = new Quakebook();
         x.slow(24, 0, 7);
         is(11, x.layer(2, 0, 7), "layer(2, 0, 7)");
@@ -193,7 +140,7 @@ public final class PromiseTest {
     }
 
     private void wall() {
-        promise = 4;
+        about("promise 4");
         Quakebook x = new Quakebook();
         is(0, x.wall(1, true), "wall(1, true)");
         is(1, x.wall(1, true), "wall(1, true) again");
@@ -218,7 +165,7 @@ public final class PromiseTest {
     }
 
     private void station() {
-        promise = 5;
+        about("promise 5");
         Quakebook x = new Quakebook();
         int[] cells = {0, 95, 95, 7, 50, 12};
         for (int k = 0; k < 6; k++) {
@@ -240,7 +187,7 @@ public final class PromiseTest {
     }
 
     private void offset() {
-        promise = 6;
+        about("promise 6");
         Quakebook x = standing(2, 0);
         x.arrive(1, 0, 50, 1);
         is(0, x.offset(1, 99), "offset(1, 99)");
@@ -256,7 +203,7 @@ public final class PromiseTest {
     }
 
     private void slip() {
-        promise = 7;
+        about("promise 7");
         Quakebook x = standing(1, 0);
         x.tell(0, 100, 1, 1);
         x.arrive(0, 0, 109, 1);
@@ -274,7 +221,7 @@ public final class PromiseTest {
     }
 
     private void arrive() {
-        promise = 8;
+        about("promise 8");
         Quakebook x = standing(2, 0);
         is(0, x.arrive(0, 0, 0, 1), "arrive(0, 0, 0, 1)");
         is(1, x.arrive(1, 1, 9999, 999), "arrive(1, 1, 9999, 999)");
@@ -298,7 +245,7 @@ public final class PromiseTest {
     }
 
     private void forget() {
-        promise = 9;
+        about("promise 9");
         Quakebook x = standing(1, 0);
         x.arrive(0, 0, 100, 1);
         x.arrive(0, 0, 101, 1);
@@ -324,7 +271,7 @@ public final class PromiseTest {
     }
 
     private void gather() {
-        promise = 10;
+        about("promise 10");
         Quakebook x = new Quakebook();
         x.station(0);
         x.station(11);
@@ -350,7 +297,7 @@ public final class PromiseTest {
     }
 
     private void gatherTies() {
-        promise = 10;
+        about("promise 10");
         // In each cell the two are 2 apart: the smallest cell, 30 away, and there the smallest minute.
         Quakebook x = standing(2, 5);
         x.arrive(0, 0, 100, 1);
@@ -389,7 +336,7 @@ public final class PromiseTest {
     }
 
     private void gatherMinutes() {
-        promise = 10;
+        about("promise 10");
         // 5 apart: two minutes serve, with the same sum; the smallest is the later one less the slip.
         Quakebook x = standing(4, 0);
         x.wall(1, true);
@@ -420,7 +367,7 @@ public final class PromiseTest {
     }
 
     private void gatherMany() {
-        promise = 10;
+        about("promise 10");
         Quakebook x = standing(6, 0);
         x.wall(1, true);
         x.wall(12, true);
@@ -436,7 +383,7 @@ public final class PromiseTest {
     }
 
     private void gatherLimits() {
-        promise = 10;
+        about("promise 10");
         Quakebook x = standing(3, 5);
         x.arrive(0, 0, 1000, 1);
         x.arrive(1, 0, 1000, 1);
@@ -466,7 +413,7 @@ public final class PromiseTest {
     }
 
     private void tell() {
-        promise = 11;
+        about("promise 11");
         Quakebook x = standing(1, 0);
         x.arrive(0, 0, 100, 1);
         is(0, x.tell(0, 103, 6, 4), "tell(0, 103, 6, 4)");
@@ -497,7 +444,7 @@ public final class PromiseTest {
     }
 
     private void drop() {
-        promise = 12;
+        about("promise 12");
         Quakebook x = standing(1, 0);
         x.arrive(0, 0, 100, 1);
         x.tell(0, 101, 1, 1);
@@ -518,7 +465,7 @@ public final class PromiseTest {
     }
 
     private void merge() {
-        promise = 13;
+        about("promise 13");
         Quakebook x = new Quakebook();
         x.tell(5, 10, 3, 2);
         x.tell(6, 20, 5, 1);
@@ -540,7 +487,7 @@ public final class PromiseTest {
     }
 
     private void mergeMains() {
-        promise = 13;
+        about("promise 13");
         // The SIZES of the gathered ones are those ahead of the merging, though arrivals go over by it.
         Quakebook x = standing(1, 0);
         x.tell(0, 100, 0, 0);
@@ -562,7 +509,7 @@ public final class PromiseTest {
     }
 
     private void rule() {
-        promise = 14;
+        about("promise 14");
         Quakebook x = new Quakebook();
         is(0, x.rule(0, 1, 0, 11), "rule(0, 1, 0, 11)");
         is(1, x.rule(9999, 999, 11, 0), "rule(9999, 999, 11, 0)");
@@ -583,7 +530,7 @@ public final class PromiseTest {
     }
 
     private void noRules() {
-        promise = 15;
+        about("promise 15");
         Quakebook x = new Quakebook();
         x.tell(3, 0, 1, 1);
         x.rule(1, 1, 3, 3);
@@ -598,7 +545,7 @@ public final class PromiseTest {
     }
 
     private void undo() {
-        promise = 16;
+        about("promise 16");
         Quakebook x = new Quakebook();
         for (int k = 1; k <= 9; k++) {
             x.slow(0, 0, k);
@@ -622,7 +569,7 @@ public final class PromiseTest {
     }
 
     private void undoAll() {
-        promise = 16;
+        about("promise 16");
         for (int k = 0; k < 14; k++) {
             Quakebook x = standing(2, 3);
             x.arrive(0, 0, 118, 9);
@@ -736,7 +683,7 @@ public final class PromiseTest {
     }
 
     private void knock() {
-        promise = 17;
+        about("promise 17");
         Quakebook x = new Quakebook();
         is(1, x.knock(), "knock()");
         is(2, x.knock(), "knock()");
@@ -749,7 +696,7 @@ public final class PromiseTest {
     }
 
     private void ofCell() {
-        promise = 18;
+        about("promise 18");
         Quakebook x = standing(3, 95);
         x.slow(95, 0, 2);
         x.slow(95, 1, 8);
@@ -769,7 +716,7 @@ public final class PromiseTest {
     }
 
     private void time() {
-        promise = 19;
+        about("promise 19");
         Quakebook x = new Quakebook();
         is(0, x.time(7, 7, 1), "time(7, 7, 1)");
         is(108, x.time(0, 95, 0), "time(0, 95, 0)");
@@ -816,7 +763,7 @@ public final class PromiseTest {
     }
 
     private void way() {
-        promise = 20;
+        about("promise 20");
         Quakebook x = new Quakebook();
         is("0 1 13", x.way(0, 13, 0), "way(0, 13, 0)");
         is("13 1 0", x.way(13, 0, 0), "way(13, 0, 0)");
@@ -834,7 +781,7 @@ public final class PromiseTest {
     }
 
     private void reach() {
-        promise = 21;
+        about("promise 21");
         Quakebook x = new Quakebook();
         is(1, x.reach(0, 0, 0), "reach(0, 0, 0)");
         is(1, x.reach(0, 0, 5), "reach(0, 0, 5)");
@@ -853,7 +800,7 @@ public final class PromiseTest {
     }
 
     private void isProved() {
-        promise = 22;
+        about("promise 22");
         Quakebook x = new Quakebook();
         for (int k = 0; k < 96; k += 7) {
             x.slow(k, k % 2, 1 + k % 9);
@@ -869,7 +816,7 @@ public final class PromiseTest {
     }
 
     private void ofArrival() {
-        promise = 23;
+        about("promise 23");
         Quakebook x = standing(2, 1);
         x.offset(1, -4);
         x.arrive(1, 1, 100, 77);
@@ -891,7 +838,7 @@ public final class PromiseTest {
     }
 
     private void best() {
-        promise = 24;
+        about("promise 24");
         Quakebook x = new Quakebook();
         x.station(0);
         x.station(11);
@@ -910,31 +857,31 @@ public final class PromiseTest {
         is(0, x.bestCell(1), "bestCell(1)");
         for (int set : new int[] {0, -1, LOW, HIGH, 16, 17, 64, 65}) {
             argument(x, () -> x.bestCell(set), "bestCell(" + set + ")");
-            promise = 25;
+            about("promise 25");
             argument(x, () -> x.bestMinute(set), "bestMinute(" + set + ")");
-            promise = 26;
+            about("promise 26");
             argument(x, () -> x.misfit(set), "misfit(" + set + ")");
-            promise = 27;
+            about("promise 27");
             argument(x, () -> x.possible(set), "possible(" + set + ")");
-            promise = 28;
+            about("promise 28");
             argument(x, () -> x.bad(set), "bad(" + set + ")");
-            promise = 24;
+            about("promise 24");
         }
-        promise = 25;
+        about("promise 25");
         is(100, x.bestMinute(15), "bestMinute(15)");
         is(118, x.bestMinute(1), "bestMinute(1)");
-        promise = 26;
+        about("promise 26");
         is(0, x.misfit(15), "misfit(15)");
         is(0, x.misfit(47), "misfit(47)");
         // The station of the one alone in a WALL: nowhere could it come from.
         x.wall(0, true);
-        promise = 24;
+        about("promise 24");
         is(-1, x.bestCell(15), "bestCell(15) with a wall");
         is(-1, x.bestCell(1), "bestCell(1) with a wall");
-        promise = 25;
+        about("promise 25");
         state(x, () -> x.bestMinute(1), "bestMinute(1) with a wall");
         argument(x, () -> x.bestMinute(16), "bestMinute(16) with a wall");
-        promise = 26;
+        about("promise 26");
         state(x, () -> x.misfit(15), "misfit(15) with a wall");
         argument(x, () -> x.misfit(0), "misfit(0) with a wall");
     }
@@ -946,26 +893,26 @@ public final class PromiseTest {
         for (int k = 0; k < 4; k++) {
             x.arrive(k, 0, minutes[k], 1);
         }
-        promise = 24;
+        about("promise 24");
         is(0, x.bestCell(15), "bestCell(15)");
-        promise = 25;
+        about("promise 25");
         is(73, x.bestMinute(15), "bestMinute(15)");
         is(78, x.bestMinute(7), "bestMinute(7)");
-        promise = 26;
+        about("promise 26");
         is(15, x.misfit(15), "misfit(15)");
         is(10, x.misfit(7), "misfit(7)");
         x.wall(0, true);
-        promise = 24;
+        about("promise 24");
         is(1, x.bestCell(15), "bestCell(15) with a wall");
-        promise = 25;
+        about("promise 25");
         x.offset(0, 99);
         is(-13, x.bestMinute(1), "bestMinute(1) with an offset");
-        promise = 23;
+        about("promise 23");
         is(11, x.ofArrival(0, 4), "ofArrival(0, 4)");
     }
 
     private void possible() {
-        promise = 27;
+        about("promise 27");
         Quakebook x = new Quakebook();
         x.station(0);
         x.station(11);
@@ -987,7 +934,7 @@ public final class PromiseTest {
     }
 
     private void bad() {
-        promise = 28;
+        about("promise 28");
         Quakebook x = standing(3, 5);
         x.arrive(0, 0, 100, 1);
         x.arrive(1, 0, 102, 1);
@@ -1031,7 +978,7 @@ public final class PromiseTest {
     }
 
     private void putTo() {
-        promise = 29;
+        about("promise 29");
         Quakebook x = standing(2, 0);
         x.tell(0, 100, 1, 1);
         x.tell(0, 101, 1, 1);
@@ -1045,20 +992,20 @@ public final class PromiseTest {
         is(2 + 8, x.putTo(1), "putTo(1)");
         is(4, x.putTo(-1), "putTo(-1)");
         index(x, () -> x.putTo(2), "putTo(2)");
-        promise = 23;
+        about("promise 23");
         is(1, x.ofArrival(1, 5), "ofArrival(1, 5)");
         is(1, x.ofArrival(1, 6), "ofArrival(1, 6)");
         is(3, x.ofArrival(3, 6), "ofArrival(3, 6)");
         is(3, x.ofArrival(4, 6), "ofArrival(4, 6)");
-        promise = 30;
+        about("promise 30");
         is(3, x.ofShock(0, 4), "ofShock(0, 4)");
         is(4, x.ofShock(1, 4), "ofShock(1, 4)");
-        promise = 29;
+        about("promise 29");
         index(x, () -> x.putTo(-2), "putTo(-2)");
     }
 
     private void ofShock() {
-        promise = 30;
+        about("promise 30");
         Quakebook x = standing(2, 0);
         x.tell(12, 100, 1, 1);
         x.tell(13, 9, 0, 7);
@@ -1078,7 +1025,7 @@ public final class PromiseTest {
     }
 
     private void size() {
-        promise = 31;
+        about("promise 31");
         Quakebook x = standing(3, 0);
         x.tell(1, 100, 0, 0);
         is("-", x.size(0), "size(0)");
@@ -1100,7 +1047,7 @@ public final class PromiseTest {
     }
 
     private void clusters() {
-        promise = 32;
+        about("promise 32");
         Quakebook x = new Quakebook();
         x.tell(50, 100, 1, 1);
         x.tell(0, 100, 1, 1);
@@ -1126,7 +1073,7 @@ public final class PromiseTest {
     }
 
     private void ofCluster() {
-        promise = 33;
+        about("promise 33");
         Quakebook x = new Quakebook();
         x.tell(10, 30, 0, 0);
         x.tell(10, 20, 5, 2);
@@ -1165,7 +1112,7 @@ public final class PromiseTest {
     }
 
     private void rate() {
-        promise = 34;
+        about("promise 34");
         Quakebook x = new Quakebook();
         x.tell(0, 0, 0, 0);
         x.tell(0, 10, 0, 0);
@@ -1186,7 +1133,7 @@ public final class PromiseTest {
     }
 
     private void forecast() {
-        promise = 35;
+        about("promise 35");
         Quakebook x = new Quakebook();
         x.tell(0, 0, 0, 0);
         x.tell(0, 10, 0, 0);
@@ -1205,7 +1152,7 @@ public final class PromiseTest {
     }
 
     private void slope() {
-        promise = 36;
+        about("promise 36");
         Quakebook x = new Quakebook();
         is("-", x.slope(0, 1), "slope(0, 1) without any");
         x.tell(0, 0, 3, 2);
@@ -1240,7 +1187,7 @@ public final class PromiseTest {
     }
 
     private void alerts() {
-        promise = 37;
+        about("promise 37");
         Quakebook x = new Quakebook();
         x.tell(12 * 3 + 4, 0, 3, 2);
         x.tell(12 * 5 + 6, 0, 5, 3);
@@ -1259,7 +1206,7 @@ public final class PromiseTest {
     }
 
     private void book() {
-        promise = 38;
+        about("promise 38");
         Quakebook x = new Quakebook();
         x.tell(9, 20, 0, 0);
         x.tell(8, 20, 0, 0);
@@ -1280,7 +1227,7 @@ public final class PromiseTest {
     }
 
     private void made() {
-        promise = 39;
+        about("promise 39");
         Quakebook x = heardTwice();
         // 4 s = 13 and 2 s = 6: s = (52 + 12) / 20
         is("16/5 . . . . . . .", x.made(0), "made(0)");
@@ -1301,7 +1248,7 @@ public final class PromiseTest {
     }
 
     private void madeByLayers() {
-        promise = 39;
+        about("promise 39");
         // Rows 0 and 1 only in sum: not determined; one along the row 1 makes both out.
         Quakebook x = standing(1, 0);
         x.station(14);
@@ -1325,7 +1272,7 @@ public final class PromiseTest {
     }
 
     private void left() {
-        promise = 40;
+        about("promise 40");
         Quakebook x = heardTwice();
         is("1/5", x.left(0), "left(0)");
         is("-", x.left(1), "left(1)");
@@ -1346,7 +1293,7 @@ public final class PromiseTest {
     }
 
     private void ofMade() {
-        promise = 41;
+        about("promise 41");
         Quakebook x = heardTwice();
         int[] due = {2, 1, 1};
         for (int what = 0; what < 3; what++) {
@@ -1362,7 +1309,7 @@ public final class PromiseTest {
     }
 
     private void count() {
-        promise = 42;
+        about("promise 42");
         Quakebook x = standing(2, 0);
         x.wall(90, true);
         x.wall(91, true);
@@ -1385,7 +1332,7 @@ public final class PromiseTest {
     }
 
     private void isSound() {
-        promise = 43;
+        about("promise 43");
         Quakebook x = heardTwice();
         is(true, x.isSound(), "isSound()");
         x.station(50);
@@ -1401,46 +1348,35 @@ public final class PromiseTest {
         is(true, x.isSound(), "isSound() behind merge(18, 9999)");
     }
 
-    private void digest() {
-        promise = 44;
+    private static Quakebook heardElsewhereToo() {
         Quakebook x = heardTwice();
         x.rule(1, 1, 0, 11);
         x.station(95);
         x.arrive(1, 1, 400, 5);
-        is(byHand(x), x.digest(), "digest()");
-        is(x.digest(), x.digest(), "digest() again");
-        long before = x.digest();
-        x.knock();
-        is(false, before == x.digest(), "digest() is the same behind knock()");
-        is(byHand(x), x.digest(), "digest()");
-        is(byHand(new Quakebook()), new Quakebook().digest(), "digest() of a new one");
+        return x;
     }
 
-    private static long byHand(Quakebook x) {
+    private void digest() {
+        about("promise 44");
+        is(byHand(PromiseTest::heardElsewhereToo), heardElsewhereToo().digest(), "digest()");
+        Quakebook x = heardElsewhereToo();
+        long before = x.digest();
+        is(before, x.digest(), "digest() again");
+        x.knock();
+        is(false, before == x.digest(), "digest() is the same behind knock()");
+        is(byHand(() -> {
+            Quakebook y = heardElsewhereToo();
+            y.knock();
+            return y;
+        }), x.digest(), "digest() behind knock()");
+        is(byHand(Quakebook::new), new Quakebook().digest(), "digest() of a new one");
+    }
+
+    private static long byHand(Supplier<Quakebook> same) {
         long d = 6601;
-        for (int what = 0; what <= 9; what++) {
-            d = d * 31 + x.count(what);
+        for (long v : Books.values(same)) {
+            d = d * 31 + v;
         }
-        for (int cell = 0; cell < 96; cell++) {
-            for (int what = 0; what <= 4; what++) {
-                d = d * 31 + x.ofCell(cell, what);
-            }
-        }
-        for (int arrival = 0; arrival < x.count(2); arrival++) {
-            for (int what = 0; what <= 7; what++) {
-                d = d * 31 + x.ofArrival(arrival, what);
-            }
-        }
-        for (int shock = 0; shock < x.count(4); shock++) {
-            for (int what = 0; what <= 5; what++) {
-                d = d * 31 + x.ofShock(shock, what);
-            }
-            d = d * 31 + x.size(shock).length();
-        }
-        String[] texts = {x.clusters(2, 100), x.alerts(), x.book(), x.made(0), x.made(1), x.left(0), x.left(1)};
-        for (String text : texts) {
-            d = d * 31 + text.length();
-        }
-        return d * 31 + (x.isSound() ? 1 : 0);
+        return d;
     }
 }

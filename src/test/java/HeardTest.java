@@ -399,7 +399,7 @@ public final class HeardTest extends Looks {
     }
 
     private void badOrder() {
-        about("BAD: from the greatest number on by falling numbers each one is taken away, if without it still none is");
+        about("BAD: from the greatest number on each one is taken away, if without it still none is");
         Quakebook x = standing(1, 0);
         int[] minutes = {100, 200, 101, 201, 300};
         for (int minute : minutes) {

@@ -1,3 +1,8 @@
+import java.math.BigInteger;
+import java.util.ArrayList;
+import java.util.Arrays;
+import java.util.List;
+
 /** The boundary cases of the document's section 5: the equations, the SLOWNESSES made out, and what is left. */
 public final class MadeTest extends Looks {
     public static void main(String[] args) {
@@ -15,6 +20,7 @@ public final class MadeTest extends Looks {
         t.leastSquares();
         t.belowZero();
         t.mostEquations();
+        t.greatestNumbers();
         t.whatOfMade();
         t.end();
     }
@@ -231,6 +237,100 @@ public final class MadeTest extends Looks {
         }
         tells(x, 0, "3 . . . . . . .", "24", 24, 1, 1);
         is(6, x.ofShock(3, 3), "ofShock(3, 3)");
+    }
+
+    /** All LAYERS as slow as can be, ten SHOCKS far from one another, and 24 ARRIVALS, each as far off as it may be. */
+    private static Quakebook farOff() {
+        Quakebook x = GroundTest.snake();
+        int[] cells = {0, 84, 28, 59, 79, 50};
+        for (int cell : cells) {
+            x.station(cell);
+        }
+        x.slip(9);
+        int[] sources = {84, 83, 73, 3, 54, 31, 23, 10, 36, 71};
+        for (int shock = 0; shock < 10; shock++) {
+            x.tell(sources[shock], 900 * shock, 0, 0);
+        }
+        for (int k = 0; k < 24; k++) {
+            int minute = 900 * (k % 10) + x.time(cells[k % 6], sources[k % 10], 0);
+            x.arrive(k % 6, 0, minute + (k * k % 5 < 2 || k == 0 ? 9 : -9), 1);
+        }
+        return x;
+    }
+
+    private static List<long[]> equations(Quakebook x, int wave, int[] stations) {
+        List<long[]> equations = new ArrayList<>();
+        int arrivals = x.count(2);
+        for (int arrival = 0; arrival < arrivals; arrival++) {
+            int shock = x.ofArrival(arrival, 5);
+            if (shock != -1 && x.ofArrival(arrival, 1) == wave) {
+                String[] way = x.way(x.ofShock(shock, 0), stations[x.ofArrival(arrival, 0)], wave).split(" ");
+                long[] equation = new long[9];
+                for (int k = 1; k < way.length; k++) {
+                    equation[Integer.parseInt(way[k - 1]) / 12]++;
+                    equation[Integer.parseInt(way[k]) / 12]++;
+                }
+                equation[8] = x.ofArrival(arrival, 4) - x.ofShock(shock, 1);
+                equations.add(equation);
+            }
+        }
+        return equations;
+    }
+
+    private static BigInteger top(String fraction) {
+        return new BigInteger(fraction.split("/")[0]);
+    }
+
+    private static BigInteger bottom(String fraction) {
+        return fraction.contains("/") ? new BigInteger(fraction.split("/")[1]) : BigInteger.ONE;
+    }
+
+    /**
+     * The sum of the squares is least where what is left of the equations, each by how often a LAYER is in it,
+     * together is 0 for each LAYER. All is taken so often that no bottom is left.
+     */
+    private void leastByHand(Quakebook x, int wave, int... stations) {
+        String[] made = x.made(wave).split(" ");
+        is(8, made.length, "LAYERS of made(" + wave + ")");
+        BigInteger often = BigInteger.ONE;
+        for (String m : made) {
+            is(BigInteger.ONE, top(m).gcd(bottom(m)), "what divides top and bottom of " + m);
+            often = often.multiply(bottom(m)).divide(often.gcd(bottom(m)));
+        }
+        BigInteger[] together = new BigInteger[8];
+        Arrays.fill(together, BigInteger.ZERO);
+        BigInteger squares = BigInteger.ZERO;
+        for (long[] equation : equations(x, wave, stations)) {
+            BigInteger rest = often.multiply(BigInteger.valueOf(equation[8]));
+            for (int layer = 0; layer < 8; layer++) {
+                BigInteger slowness = top(made[layer]).multiply(often.divide(bottom(made[layer])));
+                rest = rest.subtract(slowness.multiply(BigInteger.valueOf(equation[layer])));
+            }
+            for (int layer = 0; layer < 8; layer++) {
+                together[layer] = together[layer].add(rest.multiply(BigInteger.valueOf(equation[layer])));
+            }
+            squares = squares.add(rest.multiply(rest));
+        }
+        for (int layer = 0; layer < 8; layer++) {
+            is(BigInteger.ZERO, together[layer], "what is left by the LAYER " + layer);
+        }
+        BigInteger whole = often.multiply(often);
+        BigInteger divisor = squares.gcd(whole);
+        is(squares.divide(divisor) + (whole.equals(divisor) ? "" : "/" + whole.divide(divisor)), x.left(wave),
+                "left(" + wave + ")");
+    }
+
+    private void greatestNumbers() {
+        about("the sum of the squares is least, and told in lowest terms, however great the numbers on the way are");
+        Quakebook x = farOff();
+        is(24, x.ofMade(0, 0), "ofMade(0, 0)");
+        is(8, x.ofMade(0, 1), "ofMade(0, 1)");
+        leastByHand(x, 0, 0, 84, 28, 59, 79, 50);
+        leastByHand(Books.full(), 0, 0, 11, 84, 50, 50, 95);
+        leastByHand(Books.full(), 1, 0, 11, 84, 50, 50, 95);
+        Quakebook y = straightDown();
+        y.arrive(1, 0, 1, 1);
+        leastByHand(y, 0, 0, 1);
     }
 
     private void whatOfMade() {

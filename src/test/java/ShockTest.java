@@ -169,7 +169,7 @@ public final class ShockTest extends Looks {
     }
 
     private void sizes() {
-        about("SIZE: the told one; otherwise STRENGTH * (1 + TIME) of all, divided by how many; not determined without");
+        about("SIZE: the told one; otherwise STRENGTH * (1 + TIME) by how many; not determined without any");
         Quakebook x = standing(2, 0);
         x.tell(0, 100, 0, 0);
         is("-", x.size(0), "size(0) without any");

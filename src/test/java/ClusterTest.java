@@ -1,3 +1,5 @@
+import java.math.BigInteger;
+
 /** The boundary cases of the document's section 4: LINKS, CLUSTERS, MAIN, RATES, SLOPES, ALERTS, and the book. */
 public final class ClusterTest extends Looks {
     public static void main(String[] args) {
@@ -24,6 +26,8 @@ public final class ClusterTest extends Looks {
         t.forecasts();
         t.slopes();
         t.slopeEdges();
+        t.greatSizes();
+        t.greatestSlope();
         t.noRulesAtFirst();
         t.fourRules();
         t.ruleEdges();
@@ -335,6 +339,65 @@ public final class ClusterTest extends Looks {
         is("111/55", x.slope(3501, 999), "slope(3501, 999) of one, 495/999 above");
         // 1/1998 above twice, 500/999 above once.
         is("999/167", x.slope(3496, 999), "slope(3496, 999) of all");
+    }
+
+    private void greatSizes() {
+        about("a FRACTION is told as its top and, if its bottom is not 1, \"/\" and that: also of more than 32 bits");
+        // SIZES as great as STRENGTHS and TIMES make them, heard at the other end of the longest WAY.
+        Quakebook x = GroundTest.winding(0, 9);
+        x.station(89);
+        int[] sources = {9, 9, 9, 35};
+        int[] times = {61 * 18, 61 * 18, 61 * 18, 57 * 18};
+        int[] strengths = {999, 999, 987, 992};
+        String[] sizes = {"1097901", "1097901", "1084713", "1018784"};
+        for (int shock = 0; shock < 4; shock++) {
+            x.tell(sources[shock], 2000 * shock, 0, 0);
+            x.arrive(0, 0, 2000 * shock + times[shock], strengths[shock]);
+            is(sizes[shock], x.size(shock), "size(" + shock + ")");
+        }
+        // 4 / (4299299 - 4 * 8101 / 999): the bottom is 2^32 + 1.
+        is("3996/4294967297", x.slope(8101, 999), "slope(8101, 999)");
+        is("4/4299299", x.slope(0, 999), "slope(0, 999)");
+        is("4/4259303", x.slope(9999, 1), "slope(9999, 1)");
+        is(0, x.ofCluster(3, 18, 9999, 1), "MAIN of all");
+        x.drop(0);
+        is(0, x.ofCluster(2, 18, 9999, 1), "MAIN of those left");
+        is(2, x.merge(18, 9999), "merge(18, 9999)");
+        is("1097901", x.size(0), "size(0) of MAIN");
+    }
+
+    private void greatestSlope() {
+        about("SLOPE: of as many SHOCKS as there can be, with the greatest SIZE, and bottoms that share nothing");
+        Quakebook x = GroundTest.winding(0, 9);
+        for (int layer = 0; layer < 8; layer++) {
+            x.layer(layer, 1, 9);
+        }
+        x.tell(9, 100, 0, 0);
+        BigInteger sum = BigInteger.ZERO;
+        for (int station = 0; station < 6; station++) {
+            x.station(89);
+            for (int wave = 0; wave < 2; wave++) {
+                int strength = wave == 0 ? 999 : 992 + station;
+                x.arrive(station, wave, 100 + 61 * 18, strength);
+                sum = sum.add(BigInteger.valueOf(strength * (1 + 61 * 18)));
+            }
+        }
+        is(12, x.ofShock(0, 3), "ofShock(0, 3)");
+        BigInteger bottom = BigInteger.valueOf(12);
+        int[] bottoms = {997, 991, 983, 977, 971, 967, 953, 947, 941};
+        for (int k = 0; k < bottoms.length; k++) {
+            x.tell(0, 0, 9999 - k, bottoms[k]);
+            BigInteger b = BigInteger.valueOf(bottoms[k]);
+            sum = sum.multiply(b).add(bottom.multiply(BigInteger.valueOf(9999 - k)));
+            bottom = bottom.multiply(b);
+        }
+        for (int top : new int[] {0, 1, 9000, 9208}) {
+            BigInteger least = BigInteger.valueOf(919);
+            BigInteger above = sum.multiply(least).subtract(bottom.multiply(BigInteger.valueOf(10 * top)));
+            BigInteger many = bottom.multiply(least).multiply(BigInteger.TEN);
+            BigInteger divisor = many.gcd(above);
+            is(many.divide(divisor) + "/" + above.divide(divisor), x.slope(top, 919), "slope(" + top + ", 919)");
+        }
     }
 
     private void slopeEdges() {

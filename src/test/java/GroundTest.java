@@ -16,6 +16,7 @@ public final class GroundTest extends Looks {
         t.smallestNextCell();
         t.wayFromItsBeginning();
         t.longestWay();
+        t.windings();
         t.reached();
         t.provedWithout();
         t.cellsOfStationsAndShocks();
@@ -279,6 +280,46 @@ public final class GroundTest extends Looks {
         is(51, x.reach(0, 0, 51 * 18 - 1), "reach(0, 0, TIME less 1)");
         is(true, x.isProved(84, 0, 0), "isProved(84, 0, 0)");
         is(true, x.isProved(0, 95, 1), "isProved(0, 95, 1)");
+    }
+
+    /** As long a WAY as a long search for WALLS found: 61 STEPS from the cell 9 to the cell 89. */
+    static Quakebook winding(int wave, int slowness) {
+        String[] ground = {
+            "...#....#...",
+            ".#.#.##..##.",
+            ".#.#...#..#.",
+            ".#..##..#...",
+            ".##...#..###",
+            ".####..#....",
+            ".#...#..###.",
+            "...#..#....."};
+        Quakebook x = new Quakebook();
+        for (int layer = 0; layer < 8; layer++) {
+            x.layer(layer, wave, slowness);
+        }
+        for (int cell = 0; cell < 96; cell++) {
+            if (ground[cell / 12].charAt(cell % 12) == '#') {
+                x.wall(cell, true);
+            }
+        }
+        return x;
+    }
+
+    private void windings() {
+        about("TIME and WAY, as long as WALLS can make them");
+        String due = "9 10 11 23 35 47 46 45 33 32 20 19 7 6 5 4 16 28 29 30 42 43 55 56 68 69 70 71 83 95 94 93"
+                + " 92 91 79 78 66 65 53 52 51 39 38 26 14 2 1 0 12 24 36 48 60 72 84 85 86 74 75 76 88 89";
+        for (int wave = 0; wave < 2; wave++) {
+            for (int slowness = 1; slowness <= 9; slowness += 4) {
+                Quakebook x = winding(wave, slowness);
+                is(due, x.way(9, 89, wave), "way(9, 89, " + wave + ")");
+                is(61 * 2 * slowness, x.time(9, 89, wave), "time(9, 89, " + wave + ")");
+                is(61 * 2 * slowness, x.time(89, 9, wave), "time(89, 9, " + wave + ")");
+                is(62, x.reach(9, wave, 61 * 2 * slowness), "reach(9, " + wave + ", TIME)");
+                is(61, x.reach(9, wave, 61 * 2 * slowness - 1), "reach(9, " + wave + ", TIME less 1)");
+                is(true, x.isProved(89, 9, wave), "isProved(89, 9, " + wave + ")");
+            }
+        }
     }
 
     private void reached() {

@@ -6,6 +6,9 @@ public final class HeardTest extends Looks {
         t.sixStations();
         t.stationAnywhere();
         t.offsets();
+        t.offsetOfMinus9();
+        t.farthest();
+        t.farthestBack();
         t.slips();
         t.noArrivals();
         t.allArrivals();
@@ -97,6 +100,88 @@ public final class HeardTest extends Looks {
         y.undo();
         y.station(1);
         is(0, y.offset(0, 1), "offset(0, 1) of a new one");
+    }
+
+    private void offsetOfMinus9() {
+        about("offset(): \"Returns that before\", also -9, which then is an OFFSET like each other one");
+        Quakebook x = standing(1, 0);
+        x.tell(0, 100, 0, 0);
+        x.arrive(0, 0, 100, 1);
+        for (int before = -11; before <= -7; before++) {
+            is(before == -11 ? 0 : before - 1, x.offset(0, before), "offset(0, " + before + ")");
+            is(0, x.putTo(0), "putTo(0)");
+        }
+        is(-7, x.offset(0, -9), "offset(0, -9)");
+        is(109, x.ofArrival(0, 4), "ofArrival(0, 4)");
+        is(-9, x.offset(0, 1), "offset(0, 1)");
+        is(99, x.ofArrival(0, 4), "ofArrival(0, 4)");
+        is(1, x.putTo(0), "putTo(0)");
+        is(true, x.isSound(), "isSound()");
+        is(7, x.undo(), "undo()");
+        is(109, x.ofArrival(0, 4), "ofArrival(0, 4) behind undo()");
+        is(0, x.putTo(0), "putTo(0) behind undo()");
+        is(-9, x.offset(0, -9), "offset(0, -9) as it was");
+        is(8, x.count(6), "count(6)");
+    }
+
+    private void farthest() {
+        about("HOUR: minute less OFFSET, up to 10098; a SHOCK at the other end of the longest WAY");
+        Quakebook x = GroundTest.winding(0, 9);
+        x.station(89);
+        x.slip(9);
+        x.offset(0, -99);
+        int time = 61 * 18;
+        is(0, x.tell(9, 9000, 0, 0), "tell(9, 9000, 0, 0)");
+        is(1, x.tell(9, 8991, 0, 0), "tell(9, 8991, 0, 0)");
+        is(2, x.tell(9, 8990, 0, 0), "tell(9, 8990, 0, 0)");
+        for (int k = 0; k < 3; k++) {
+            is(k, x.arrive(0, 0, 9999, 999 - k), "arrive(0, 0, 9999, ..)");
+            is(9000 + time, x.ofArrival(k, 4), "ofArrival(" + k + ", 4)");
+            is(k < 2 ? k : -1, x.ofArrival(k, 5), "ofArrival(" + k + ", 5)");
+            is(k < 2 ? 9 * k : -1, x.ofArrival(k, 6), "ofArrival(" + k + ", 6)");
+        }
+        is("1097901", x.size(0), "size(0)");
+        is("1096802", x.size(1), "size(1)");
+        is("-", x.size(2), "size(2)");
+        // 2 / (1097901 + 1096802 - 2 * 9999)
+        is("2/2174705", x.slope(9999, 1), "slope(9999, 1)");
+        is(0, x.rule(9999, 1, 9, 9), "rule(9999, 1, 9, 9)");
+        is("0 1", x.alerts(), "alerts()");
+        is(true, x.isSound(), "isSound()");
+    }
+
+    private void farthestBack() {
+        about("HOUR: minute less OFFSET, down to -99; BEST and GATHERED long ahead of it");
+        Quakebook x = GroundTest.winding(0, 9);
+        for (int layer = 0; layer < 8; layer++) {
+            x.layer(layer, 1, 8);
+        }
+        x.station(89);
+        x.offset(0, 99);
+        x.slip(0);
+        // The WAVES are 2 apart each STEP: as far apart as 61 STEPS make them, they come from the other end alone.
+        is(0, x.arrive(0, 1, 0, 1), "arrive(0, 1, 0, 1)");
+        is(1, x.arrive(0, 0, 122, 1), "arrive(0, 0, 122, 1)");
+        is(2, x.arrive(0, 0, 124, 1), "arrive(0, 0, 124, 1)");
+        is(-99, x.ofArrival(0, 4), "ofArrival(0, 4)");
+        is("9", x.possible(3), "possible(3)");
+        is(9, x.bestCell(3), "bestCell(3)");
+        is(-99 - 61 * 16, x.bestMinute(3), "bestMinute(3)");
+        is(0, x.misfit(3), "misfit(3)");
+        is("", x.possible(5), "possible(5)");
+        is(5, x.bad(7), "bad(7)");
+        is(9, x.bestCell(5), "bestCell(5)");
+        is(-1075, x.bestMinute(5), "bestMinute(5)");
+        is(2, x.misfit(5), "misfit(5)");
+        is(1, x.gather(2), "gather(2)");
+        is("0@9:-1075", x.book(), "book()");
+        is(3, x.putTo(0), "putTo(0)");
+        is("1", x.rate(-1075, -1074), "rate(-1075, -1074)");
+        is("0", x.rate(-9999, -1075), "rate(-9999, -1075)");
+        is("1/8925", x.rate(-9999, -1074), "rate(-9999, -1074)");
+        is("0", x.rate(-1074, 9999), "rate(-1074, 9999)");
+        is(-1075, x.ofCluster(0, 0, 0, 4), "ofCluster(0, 0, 0, 4)");
+        is(true, x.isSound(), "isSound()");
     }
 
     private void slips() {

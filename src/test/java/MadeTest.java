@@ -21,6 +21,8 @@ public final class MadeTest extends Looks {
         t.belowZero();
         t.mostEquations();
         t.greatestNumbers();
+        t.longestWay();
+        t.greatestGround();
         t.whatOfMade();
         t.end();
     }
@@ -331,6 +333,81 @@ public final class MadeTest extends Looks {
         Quakebook y = straightDown();
         y.arrive(1, 0, 1, 1);
         leastByHand(y, 0, 0, 1);
+    }
+
+    private void longestWay() {
+        about("how often a cell of each LAYER ends a STEP of a WAY that WALLS make as long as they can");
+        // SHOCKS further and further along the WAY, each heard at both ends of it.
+        int[] along = {11, 47, 45, 32, 7, 16, 30, 68, 71, 94};
+        Quakebook x = GroundTest.winding(1, 9);
+        x.station(9);
+        x.station(89);
+        x.slip(9);
+        for (int shock = 0; shock < 10; shock++) {
+            x.tell(along[shock], 950 * shock, 0, 0);
+            for (int station = 0; station < 2; station++) {
+                int time = x.time(along[shock], 9 + 80 * station, 1);
+                x.arrive(station, 1, 950 * shock + time + (shock % 2 == station ? 9 : -9), 1);
+            }
+        }
+        is(20, x.ofMade(1, 0), "ofMade(1, 0)");
+        leastByHand(x, 1, 9, 89);
+        // One alone from end to end: each LAYER is in it, so that several make it out.
+        Quakebook y = GroundTest.winding(1, 9);
+        y.station(9);
+        y.tell(89, 8901, 0, 0);
+        y.arrive(0, 1, 9999, 1);
+        tells(y, 1, "-", "-", 1, 8, 0);
+        // A whole LAYER along: 11 STEPS with 22 ends.
+        Quakebook z = standing(1, 0);
+        z.slip(9);
+        z.tell(11, 100, 0, 0);
+        z.arrive(0, 0, 166 + 9, 1);
+        tells(z, 0, "75/22 . . . . . . .", "0", 1, 1, 1);
+    }
+
+    private void greatestGround() {
+        about("due for the greatest of these numbers, in lowest terms, the bottom above 0");
+        // Found by a long search: of all grounds that it saw this has the greatest numbers, of some 100 bits.
+        String[] ground = {"978977842537", "765869439389", "655684198999", "445327#####9", "4#####169989",
+            "#27763585981", "116793857752", "134884926553"};
+        int[] cells = {72, 61, 54, 84, 84, 11};
+        int[] sources = {31, 0, 57, 24, 12, 48, 24, 48, 58, 51};
+        // Each ARRIVAL: its STATION, its SHOCK, and whether it comes 9 minutes later or sooner.
+        String arrivals = "53- 03+ 17+ 06- 31+ 36+ 24+ 48- 55- 16+ 01+ 44- 23+ 57- 14+ 41+ 56- 05+ 21+ 11+ 27+ 04- 38- 45-";
+        for (int wave = 0; wave < 2; wave++) {
+            Quakebook x = new Quakebook();
+            for (int cell = 0; cell < 96; cell++) {
+                char sign = ground[cell / 12].charAt(cell % 12);
+                if (sign == '#') {
+                    x.wall(cell, true);
+                } else {
+                    x.slow(cell, wave, sign - '0');
+                }
+            }
+            x.slip(9);
+            for (int cell : cells) {
+                x.station(cell);
+            }
+            for (int shock = 0; shock < 10; shock++) {
+                x.tell(sources[shock], 900 * shock, 0, 0);
+            }
+            for (String arrival : arrivals.split(" ")) {
+                int station = arrival.charAt(0) - '0';
+                int shock = arrival.charAt(1) - '0';
+                int time = x.time(sources[shock], cells[station], wave);
+                int number = x.arrive(station, wave, 900 * shock + time + (arrival.charAt(2) == '+' ? 9 : -9), 1);
+                is(shock, x.ofArrival(number, 5), "ofArrival(" + number + ", 5)");
+            }
+            tells(x, wave, "1502358832543241121415/248568318795658636789"
+                    + " 1496792986586087523269/248568318795658636789 1548545423854488518520/248568318795658636789"
+                    + " 1496981076033205754052/461626877763366039751 27408696114777757360410/3231388144343562278257"
+                    + " 3000702867510361594947/461626877763366039751 18620804457296911729858/3231388144343562278257"
+                    + " 2485770102368207018444/461626877763366039751",
+                    "6174933167596631752442876/248568318795658636789", 24, 8, 1);
+            leastByHand(x, wave, cells);
+            is(true, x.isSound(), "isSound()");
+        }
     }
 
     private void whatOfMade() {
